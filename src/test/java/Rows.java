@@ -1,0 +1,127 @@
+import java.util.Random;
+
+/** Rows of bytes as texts: hexadecimal, two digits a byte, with spaces for the eye. */
+final class Rows {
+    private Rows() {
+    }
+
+    static TokenFrames with(String hex) {
+        TokenFrames x = new TokenFrames();
+        put(x, hex);
+        return x;
+    }
+
+    static TokenFrames with(String historyHex, String inHex) {
+        TokenFrames x = with(historyHex);
+        x.remember();
+        put(x, inHex);
+        return x;
+    }
+
+    static void put(TokenFrames x, String hex) {
+        String digits = hex.replace(" ", "");
+        for (int at = 0; at < digits.length(); at += 16) {
+            String part = digits.substring(at, Math.min(digits.length(), at + 16));
+            if (!x.write(Long.parseUnsignedLong(part, 16), part.length() / 2)) {
+                throw new IllegalArgumentException("IN has no room for " + hex);
+            }
+        }
+    }
+
+    /** IN becomes the row. */
+    static void load(TokenFrames x, String hex) {
+        x.clear();
+        put(x, hex);
+    }
+
+    static String out(TokenFrames x) {
+        StringBuilder row = new StringBuilder();
+        for (int k = 0; k < x.size(); k++) {
+            row.append(k == 0 ? "" : " ").append(String.format("%02x", x.byteAt(k)));
+        }
+        return row.toString();
+    }
+
+    /** IN, through OUT. */
+    static String in(TokenFrames x) {
+        x.frame(64, 4, 0, 1, 0);
+        StringBuilder row = new StringBuilder();
+        for (int k = 11; k < x.size() - 4; k += 5) {
+            row.append(k == 11 ? "" : " ").append(String.format("%02x", x.byteAt(k)));
+        }
+        return row.toString();
+    }
+
+    static String text(String letters) {
+        StringBuilder row = new StringBuilder();
+        for (char letter : letters.toCharArray()) {
+            row.append(row.length() == 0 ? "" : " ").append(String.format("%02x", (int) letter));
+        }
+        return row.toString();
+    }
+
+    static String times(int n, String hex) {
+        return (hex + " ").repeat(n).trim();
+    }
+
+    /** A row of n bytes (at most 512) without a match: no four bytes of it come twice in this order. */
+    static String plain(int n) {
+        StringBuilder row = new StringBuilder();
+        for (int i = 0; i < n; i++) {
+            row.append(i == 0 ? "" : " ").append(String.format("%02x", i % 2 == 0 ? i / 2 : 255 - (i / 2 * 7 & 255)));
+        }
+        return row.toString();
+    }
+
+    /**
+     * An object whose IN has n bytes (7000 .. 8000) without a match, after fewer than 450 calls. So many
+     * can't be written one by one: a frame with a sum for each two bytes makes most of them, and packing
+     * takes out what comes twice (with this seed, all of it).
+     */
+    static TokenFrames withoutMatches(int n) {
+        Random random = new Random(16);
+        TokenFrames x = new TokenFrames();
+        for (int i = 0; i < 198; i++) {
+            x.write(random.nextLong(), 8);
+        }
+        x.frame(80, 4, 0, 2, 0);
+        x.turn();
+        int count = x.block(2);
+        x.turn();
+        while (count < n) {
+            int more = Math.min(8, n - count);
+            x.write(random.nextLong(), more);
+            count += more;
+        }
+        return x;
+    }
+
+    static int count(String hex) {
+        return hex.replace(" ", "").length() / 2;
+    }
+
+    /** The first n bytes of a row. */
+    static String first(int n, String hex) {
+        return hex.replace(" ", "").substring(0, 2 * n);
+    }
+
+    /** The row with byte k being another one. */
+    static String changed(String hex, int k, int value) {
+        String digits = hex.replace(" ", "");
+        return digits.substring(0, 2 * k) + String.format("%02x", value) + digits.substring(2 * k + 2);
+    }
+
+    static long sum(String hex) {
+        String digits = hex.replace(" ", "");
+        int[] row = new int[digits.length() / 2];
+        for (int k = 0; k < row.length; k++) {
+            row[k] = Integer.parseInt(digits.substring(2 * k, 2 * k + 2), 16);
+        }
+        return Model.narrowSum(row);
+    }
+
+    /** A number in four bytes, the lowest first. */
+    static String number(long value) {
+        return String.format("%08x", Integer.reverseBytes((int) value));
+    }
+}
