@@ -61,7 +61,6 @@ public final class TokenFrames {
         frameWriter = new FrameWriter(in, draft, blockWriter);
         blockReader = new BlockReader(in, history, draft);
         frameReader = new FrameReader(in, draft, blockReader);
-        place = 0;
     }
 
     public boolean write(long bytes, int n) {
@@ -179,7 +178,6 @@ public final class TokenFrames {
 
         Row(int room) {
             bytes = new byte[Math.max(0, room)];
-            count = 0;
         }
 
         int count() {
@@ -327,9 +325,6 @@ public final class TokenFrames {
             data = new Row(2 * ROOM);
             latest = new int[1 << SLOT_BITS];
             earlier = new int[2 * ROOM];
-            chained = 0;
-            source = -1;
-            length = 0;
         }
 
         Row data() {
@@ -573,12 +568,6 @@ public final class TokenFrames {
             this.in = in;
             this.history = history;
             this.to = to;
-            at = 0;
-            end = 0;
-            start = 0;
-            most = 0;
-            distance = 0;
-            place = 0;
         }
 
         int where() {
@@ -689,13 +678,6 @@ public final class TokenFrames {
             this.in = in;
             this.to = to;
             this.blocks = blocks;
-            at = 0;
-            most = 0;
-            flags = 0;
-            greatest = 0;
-            sizeAt = 0;
-            start = 0;
-            place = 0;
         }
 
         int where() {
@@ -812,6 +794,10 @@ public final class TokenFrames {
             return 0;
         }
 
+        /**
+         * What a block stands for needs no bound of its own: the least one of a frame, 65536 bytes, is
+         * beyond the room that there is for all.
+         */
         private int readBlock(int number) {
             int m = number & ~STANDS_FOR_ITSELF;
             if (m > greatest) {

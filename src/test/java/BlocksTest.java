@@ -17,6 +17,7 @@ public final class BlocksTest {
         test.blockRefused();
         test.blockOfEightThousand();
         test.reading();
+        test.readingOfEightThousand();
         test.readingBehindHistory();
         test.faultOne();
         test.faultTwo();
@@ -160,6 +161,11 @@ public final class BlocksTest {
         checks.due("size() after a refused block", x.size(), 8000);
         checks.due("byteAt(0) after a refused block", x.byteAt(0), 0xf0);
         checks.due("byteAt(32) after a refused block", x.byteAt(32), 7967 - 15 - 31 * 255);
+        // There is no room left ahead of the match that stands behind the literals.
+        x = Rows.withoutMatches(7980);
+        x.again(8, 1);
+        x.write(2, 8);
+        checks.due("block(2) of 7980 literals and a match", x.block(2), -1);
         TokenFrames same = Rows.with("61");
         same.again(1, 7999);
         same.remember();
@@ -200,6 +206,18 @@ public final class BlocksTest {
         read("", "1f 41 01 00 ff 01 00", 276, Rows.times(276, "41"));
         read("", "10 41 01 00 00 05 00 10 42", 10, Rows.times(9, "41") + " 42");
         read("", "f0 f1" + Rows.plain(256) + "00 01 00", 260, Rows.plain(256) + " " + Rows.plain(4));
+    }
+
+    private void readingOfEightThousand() {
+        TokenFrames x = Rows.with("10 41 01 00 f0" + Rows.times(31, "ff") + "2b 42");
+        x.again(1, 7962);
+        checks.isTrue("IN is full", !x.write(0, 1));
+        checks.due("unblock of 8000 bytes", x.unblock(8000), 5 + 15 + 31 * 255 + 0x2b);
+        checks.due("place() of 8000 bytes", x.place(), 8000);
+        checks.due("byteAt(4)", x.byteAt(4), 0x41);
+        checks.due("byteAt(5)", x.byteAt(5), 0x42);
+        checks.due("unblock of 8000 bytes to 7967", x.unblock(7967), -3);
+        checks.due("place() of the last literal", x.place(), 7999);
     }
 
     private void readingBehindHistory() {

@@ -32,6 +32,8 @@ public final class FaceTest {
         Constructor<?>[] constructors = TokenFrames.class.getDeclaredConstructors();
         checks.due("constructors", constructors.length, 1);
         checks.same("the constructor", constructors[0].toString(), "public TokenFrames()");
+        checks.due("methods, each with a name of its own",
+                TokenFrames.class.getDeclaredMethods().length, namesOfMethods().size());
         for (Class<?> inside : TokenFrames.class.getDeclaredClasses()) {
             checks.isTrue(inside + " is static and not public",
                     Modifier.isStatic(inside.getModifiers()) && !Modifier.isPublic(inside.getModifiers()));
@@ -45,6 +47,14 @@ public final class FaceTest {
             if (!Modifier.isPrivate(method.getModifiers())) {
                 names.add(method.toString());
             }
+        }
+        return names;
+    }
+
+    private static TreeSet<String> namesOfMethods() {
+        TreeSet<String> names = new TreeSet<>();
+        for (Method method : TokenFrames.class.getDeclaredMethods()) {
+            names.add(method.getName());
         }
         return names;
     }

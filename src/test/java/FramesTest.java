@@ -209,6 +209,10 @@ public final class FramesTest {
         checks.due("sum() of 7985 literals", x.sum(), sum);
         x.write(1, 1);
         checks.due("frame of 7986 literals", x.frame(64, 4, 0, 8000, 3), -1);
+        x = Rows.withoutMatches(7968);
+        x.again(8, 1);
+        x.write(2, 8);
+        checks.due("frame of 7968 literals and a match", x.frame(64, 4, 0, 8000, 3), 11 + 4 + 7984);
     }
 
     // --- promise 10
@@ -242,7 +246,8 @@ public final class FramesTest {
         read(new TokenFrames(), plainFrame(packed("12 41 01 00 00") + itself("42")), 8, Rows.times(7, "41") + " 42");
         read(new TokenFrames(), SPARE, 0, "");
         read(new TokenFrames(), "50 2a 4d 18 00 00 00 00", 0, "");
-        read(new TokenFrames(), SPARE + plainFrame(itself("41")) + SPARE + SPARE + plainFrame(itself("42")), 2, "41 42");
+        read(new TokenFrames(), SPARE + plainFrame(itself("41")) + SPARE + SPARE + plainFrame(itself("42")), 2,
+                "41 42");
         String all = Rows.number(4) + END + Rows.number(-1);
         for (int k = 4; k < 8; k++) {
             read(new TokenFrames(), head(125, k, all) + summed(itself(ABC)) + summed(packed("10 64")) + END
@@ -393,7 +398,8 @@ public final class FramesTest {
             fault(Rows.changed(good, k, 0x33), 8000, 10, 18);
         }
         for (String size : new String[] {Rows.number(2) + END, Rows.number(4) + END, END + END,
-            Rows.number(3) + Rows.number(1), Rows.number(3) + Rows.number(1L << 31), Rows.number(-1) + Rows.number(-1)}) {
+            Rows.number(3) + Rows.number(1), Rows.number(3) + Rows.number(1L << 31),
+            Rows.number(-1) + Rows.number(-1)}) {
             fault(head(72, 4, size) + itself(ABC) + END, 8000, 11, 6);
             fault(SPARE + head(76, 4, size) + itself(ABC) + END + sum(ABC), 8000, 11, 17);
             fault(head(76, 4, size) + itself(ABC) + END + "00 00 00 00", 8000, 10, 26);
