@@ -31,11 +31,11 @@ public final class BlocksTest {
         TokenFrames x = Rows.with(historyHex, inHex);
         String call = "block(" + way + ") of " + inHex + " behind " + historyHex;
         checks.due(call, x.block(way), Rows.count(want));
-        checks.same("OUT of " + call, Rows.out(x).replace(" ", ""), want.replace(" ", ""));
+        checks.same("OUT of " + call, Rows.out(x), Rows.shown(want));
         checks.due("place() after " + call, x.place(), 0);
         x.turn();
         checks.due("unblock of " + call, x.unblock(8000), Rows.count(inHex));
-        checks.same("OUT of unblock of " + call, Rows.out(x), inHex);
+        checks.same("OUT of unblock of " + call, Rows.out(x), Rows.shown(inHex));
     }
 
     private void writtenByAll(String historyHex, String inHex, String want) {
@@ -179,7 +179,7 @@ public final class BlocksTest {
         String call = "unblock(" + most + ") of " + inHex + " behind " + historyHex;
         checks.due(call, x.unblock(most), Rows.count(want));
         checks.due("place() of " + call, x.place(), Rows.count(inHex));
-        checks.same("OUT of " + call, Rows.out(x), want);
+        checks.same("OUT of " + call, Rows.out(x), Rows.shown(want));
     }
 
     private void fault(String historyHex, String inHex, int most, int number, int place) {

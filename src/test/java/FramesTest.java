@@ -68,8 +68,7 @@ public final class FramesTest {
     private void written(TokenFrames x, int flags, int cut, int way, String want) {
         checks.due("frame(" + flags + ", 4, 7, " + cut + ", " + way + ")", x.frame(flags, 4, 7, cut, way),
                 Rows.count(want));
-        checks.same("OUT of frame(" + flags + ", 4, 7, " + cut + ", " + way + ")", Rows.out(x).replace(" ", ""),
-                want.replace(" ", ""));
+        checks.same("OUT of frame(" + flags + ", 4, 7, " + cut + ", " + way + ")", Rows.out(x), Rows.shown(want));
         checks.due("place() after frame", x.place(), 0);
     }
 
@@ -87,17 +86,18 @@ public final class FramesTest {
     }
 
     private void flagsAndK() {
-        TokenFrames x = Rows.with(ABC);
         for (int flags = -1; flags < 400; flags++) {
+            TokenFrames x = Rows.with(ABC);
             boolean mayBe = flags >= 64 && flags < 128 && (flags & 2) == 0;
             int size = 18 + ((flags & 16) != 0 ? 4 : 0) + ((flags & 8) != 0 ? 8 : 0)
                     + ((flags & 4) != 0 ? 4 : 0) + ((flags & 1) != 0 ? 4 : 0);
             checks.due("frame(" + flags + ", 4, 0, 9, 0)", x.frame(flags, 4, 0, 9, 0), mayBe ? size : -1);
         }
         for (int k = 4; k < 8; k++) {
+            TokenFrames x = Rows.with(ABC);
             checks.due("frame with k " + k, x.frame(64, k, 0, 9, 0), 18);
-            checks.same("OUT of a frame with k " + k, Rows.out(x).replace(" ", ""),
-                    (head(64, k, "") + itself(ABC) + END).replace(" ", ""));
+            checks.same("OUT of a frame with k " + k, Rows.out(x),
+                    Rows.shown(head(64, k, "") + itself(ABC) + END));
         }
     }
 
@@ -221,7 +221,7 @@ public final class FramesTest {
         Rows.load(x, inHex);
         checks.due("unframe(" + most + ") of " + inHex, x.unframe(most), Rows.count(want));
         checks.due("place() of unframe of " + inHex, x.place(), Rows.count(inHex));
-        checks.same("OUT of unframe of " + inHex, Rows.out(x), want);
+        checks.same("OUT of unframe of " + inHex, Rows.out(x), Rows.shown(want));
     }
 
     private void fault(TokenFrames x, String inHex, int most, int number, int place) {

@@ -1,7 +1,13 @@
 import java.util.Random;
 
-/** Rows of bytes as texts: hexadecimal, two digits a byte, with spaces for the eye. */
+/**
+ * Rows of bytes as texts: hexadecimal, two digits a byte, with spaces for the eye.
+ *
+ * <p>An object is promised for 512 calls, so what these cost is kept low.
+ */
 final class Rows {
+    private static final int MOST_SHOWN = 100;
+
     private Rows() {
     }
 
@@ -34,19 +40,35 @@ final class Rows {
         put(x, hex);
     }
 
+    /** OUT; a long one by its sum, for which IN becomes OUT. */
     static String out(TokenFrames x) {
+        int n = x.size();
+        if (n > MOST_SHOWN) {
+            x.turn();
+            return bySum(n, x.sum());
+        }
         StringBuilder row = new StringBuilder();
-        for (int k = 0; k < x.size(); k++) {
+        for (int k = 0; k < n; k++) {
             row.append(k == 0 ? "" : " ").append(String.format("%02x", x.byteAt(k)));
         }
         return row.toString();
     }
 
+    /** A row as out tells it. */
+    static String shown(String hex) {
+        int n = count(hex);
+        return n > MOST_SHOWN ? bySum(n, (int) sum(hex)) : hex.replace(" ", "").replaceAll("..(?=.)", "$0 ");
+    }
+
+    private static String bySum(int n, int sum) {
+        return n + " bytes with the sum " + sum;
+    }
+
     /** IN, through OUT. */
     static String in(TokenFrames x) {
-        x.frame(64, 4, 0, 1, 0);
+        int n = x.frame(64, 4, 0, 1, 0);
         StringBuilder row = new StringBuilder();
-        for (int k = 11; k < x.size() - 4; k += 5) {
+        for (int k = 11; k < n - 4; k += 5) {
             row.append(k == 11 ? "" : " ").append(String.format("%02x", x.byteAt(k)));
         }
         return row.toString();
