@@ -1,8 +1,10 @@
 /** Promises 7 and 8: writing and reading blocks. */
-public final class BlocksTest {
+public final class BlocksTest extends BlockCases {
     private static final String LETTERS = Rows.text("KLMNOPQRSTUVWX");
 
-    private final Checks checks = new Checks("promises 7 and 8");
+    private BlocksTest() {
+        super("promises 7 and 8");
+    }
 
     public static void main(String[] args) {
         BlocksTest test = new BlocksTest();
@@ -25,23 +27,6 @@ public final class BlocksTest {
         test.theFirstFault();
         test.unblockRefused();
         test.checks.end();
-    }
-
-    private void written(String historyHex, String inHex, int way, String want) {
-        TokenFrames x = Rows.with(historyHex, inHex);
-        String call = "block(" + way + ") of " + inHex + " behind " + historyHex;
-        checks.due(call, x.block(way), Rows.count(want));
-        checks.same("OUT of " + call, Rows.out(x), Rows.shown(want));
-        checks.due("place() after " + call, x.place(), 0);
-        x.turn();
-        checks.due("unblock of " + call, x.unblock(8000), Rows.count(inHex));
-        checks.same("OUT of unblock of " + call, Rows.out(x), Rows.shown(inHex));
-    }
-
-    private void writtenByAll(String historyHex, String inHex, String want) {
-        for (int way = 0; way < 4; way++) {
-            written(historyHex, inHex, way, want);
-        }
     }
 
     private void literals() {
@@ -172,24 +157,6 @@ public final class BlocksTest {
         Rows.put(same, "61");
         same.again(1, 7999);
         checks.due("block(2) of 8000 bytes behind 8000", same.block(2), 1 + 2 + 32 + 1 + 5);
-    }
-
-    private void read(String historyHex, String inHex, int most, String want) {
-        TokenFrames x = Rows.with(historyHex, inHex);
-        String call = "unblock(" + most + ") of " + inHex + " behind " + historyHex;
-        checks.due(call, x.unblock(most), Rows.count(want));
-        checks.due("place() of " + call, x.place(), Rows.count(inHex));
-        checks.same("OUT of " + call, Rows.out(x), Rows.shown(want));
-    }
-
-    private void fault(String historyHex, String inHex, int most, int number, int place) {
-        TokenFrames x = Rows.with(historyHex, "20 07 08");
-        x.unblock(8000);
-        Rows.load(x, inHex);
-        String call = "unblock(" + most + ") of " + inHex + " behind " + historyHex;
-        checks.due(call, x.unblock(most), -number);
-        checks.due("place() of " + call, x.place(), place);
-        checks.same("OUT after " + call, Rows.out(x), "07 08");
     }
 
     private void reading() {

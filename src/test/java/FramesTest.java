@@ -1,12 +1,11 @@
 /** Promises 9 and 10: writing and reading frames. */
-public final class FramesTest {
-    private static final String MARK = "04 22 4d 18";
-    private static final String END = "00 00 00 00";
-    private static final String SPARE = "5f 2a 4d 18 03 00 00 00 01 02 03";
+public final class FramesTest extends FrameCases {
     private static final String ABC = Rows.text("abc");
     private static final String LETTERS = Rows.text("abcdefghijklmnop");
 
-    private final Checks checks = new Checks("promises 9 and 10");
+    private FramesTest() {
+        super("promises 9 and 10");
+    }
 
     public static void main(String[] args) {
         FramesTest test = new FramesTest();
@@ -36,49 +35,15 @@ public final class FramesTest {
         test.checks.end();
     }
 
-    // --- parts of frames
-
-    private static String head(int flags, int k, String sizeAndKey) {
-        String head = String.format("%02x%02x", flags, 16 * k) + sizeAndKey;
-        return MARK + head + String.format("%02x", Rows.sum(head) >> 8 & 255);
-    }
-
-    private static String packed(String hex) {
-        return Rows.number(Rows.count(hex)) + hex;
-    }
-
-    private static String itself(String hex) {
-        return Rows.number(Rows.count(hex) + (1L << 31)) + hex;
-    }
-
-    private static String summed(String block) {
-        return block + sum(block.replace(" ", "").substring(8));
-    }
-
-    private static String sum(String hex) {
-        return Rows.number(Rows.sum(hex));
-    }
-
-    private static String plainFrame(String blocks) {
-        return head(64, 4, "") + blocks + END;
-    }
-
     // --- promise 9
-
-    private void written(TokenFrames x, int flags, int cut, int way, String want) {
-        checks.due("frame(" + flags + ", 4, 7, " + cut + ", " + way + ")", x.frame(flags, 4, 7, cut, way),
-                Rows.count(want));
-        checks.same("OUT of frame(" + flags + ", 4, 7, " + cut + ", " + way + ")", Rows.out(x), Rows.shown(want));
-        checks.due("place() after frame", x.place(), 0);
-    }
 
     private void heads() {
         // These two whole frames are widely known ones.
-        written(new TokenFrames(), 100, 1, 0, "04 22 4d 18 64 40 a7 00 00 00 00 05 5d cc 02");
-        written(Rows.with(ABC), 64, 8000, 0, "04 22 4d 18 40 40 c0 03 00 00 80 61 62 63 00 00 00 00");
-        written(Rows.with(ABC), 72, 3, 3, head(72, 4, Rows.number(3) + END) + itself(ABC) + END);
-        written(Rows.with(ABC), 65, 3, 3, head(65, 4, Rows.number(7)) + itself(ABC) + END);
-        written(Rows.with(ABC), 73, 3, 3, head(73, 4, Rows.number(3) + END + Rows.number(7)) + itself(ABC) + END);
+        written("", "", 100, 1, 0, "04 22 4d 18 64 40 a7 00 00 00 00 05 5d cc 02");
+        written("", ABC, 64, 8000, 0, "04 22 4d 18 40 40 c0 03 00 00 80 61 62 63 00 00 00 00");
+        written("", ABC, 72, 3, 3, head(72, 4, Rows.number(3) + END) + itself(ABC) + END);
+        written("", ABC, 65, 3, 3, head(65, 4, Rows.number(7)) + itself(ABC) + END);
+        written("", ABC, 73, 3, 3, head(73, 4, Rows.number(3) + END + Rows.number(7)) + itself(ABC) + END);
         TokenFrames x = Rows.with(Rows.times(300, "61"));
         x.frame(73, 7, 0x81828384, 8000, 0);
         checks.same("a head with SIZE 300 and a KEY", Rows.out(x).substring(0, 3 * 18),
@@ -103,21 +68,21 @@ public final class FramesTest {
 
     private void rows() {
         String row = Rows.plain(24);
-        written(Rows.with(row), 64, 10, 2, plainFrame(itself(row.substring(0, 30))
+        written("", row, 64, 10, 2, plainFrame(itself(row.substring(0, 30))
                 + itself(row.substring(30, 60)) + itself(row.substring(60))));
-        written(Rows.with(row), 64, 12, 2, plainFrame(itself(row.substring(0, 36)) + itself(row.substring(36))));
-        written(Rows.with(row), 64, 24, 2, plainFrame(itself(row)));
-        written(Rows.with(row), 64, 23, 2, plainFrame(itself(row.substring(0, 69)) + itself(row.substring(69))));
-        written(Rows.with(ABC), 64, 1, 1, plainFrame(itself("61") + itself("62") + itself("63")));
-        written(Rows.with(Rows.times(40, "61")), 64, 8000, 0,
+        written("", row, 64, 12, 2, plainFrame(itself(row.substring(0, 36)) + itself(row.substring(36))));
+        written("", row, 64, 24, 2, plainFrame(itself(row)));
+        written("", row, 64, 23, 2, plainFrame(itself(row.substring(0, 69)) + itself(row.substring(69))));
+        written("", ABC, 64, 1, 1, plainFrame(itself("61") + itself("62") + itself("63")));
+        written("", Rows.times(40, "61"), 64, 8000, 0,
                 plainFrame(packed("1f 61 01 00 0f 50" + Rows.times(5, "61"))));
     }
 
     private void rowsThatStandForThemselves() {
         // A block of as many bytes as the row gives way to it, one with a byte less does not.
         String row = Rows.text("abcdYZ0123456789");
-        written(Rows.with(Rows.text("abcdX"), row), 64, 8000, 2, plainFrame(itself(row)));
-        written(Rows.with(Rows.text("abcdeX"), Rows.text("abcdeZ0123456789")), 64, 8000, 2,
+        written(Rows.text("abcdX"), row, 64, 8000, 2, plainFrame(itself(row)));
+        written(Rows.text("abcdeX"), Rows.text("abcdeZ0123456789"), 64, 8000, 2,
                 plainFrame(packed("01 06 00 b0" + Rows.text("Z0123456789"))));
     }
 
@@ -125,16 +90,16 @@ public final class FramesTest {
         String twice = LETTERS + " " + LETTERS;
         String second = packed("07 10 00 50" + Rows.text("lmnop"));
         for (int way = 0; way < 4; way++) {
-            written(Rows.with(twice), 64, 16, way, plainFrame(itself(LETTERS) + second));
-            written(Rows.with(LETTERS, twice), 64, 16, way, plainFrame(second + second));
+            written("", twice, 64, 16, way, plainFrame(itself(LETTERS) + second));
+            written(LETTERS, twice, 64, 16, way, plainFrame(second + second));
         }
         // The second row's longest match begins in HISTORY, behind the first row.
-        written(Rows.with(Rows.text("abcdefghij"), Rows.text("ABCDEFGHIJKLabcdefghijkl")), 64, 12, 2,
+        written(Rows.text("abcdefghij"), Rows.text("ABCDEFGHIJKLabcdefghijkl"), 64, 12, 2,
                 plainFrame(itself(Rows.text("ABCDEFGHIJKL")) + packed("03 16 00 50" + Rows.text("hijkl"))));
         // The first row's last places are known to the second row, and HISTORY runs on into the content.
-        written(Rows.with(Rows.text("ab"), Rows.text("cdefghijKLMN") + " " + Rows.text("abcdefghMNOP")), 64, 12, 2,
+        written(Rows.text("ab"), Rows.text("cdefghijKLMN") + " " + Rows.text("abcdefghMNOP"), 64, 12, 2,
                 plainFrame(itself(Rows.text("cdefghijKLMN")) + packed("03 0e 00 50" + Rows.text("hMNOP"))));
-        written(Rows.with(Rows.text("KLMNabcdefgh") + " " + Rows.text("defghXabcdef")), 64, 12, 2,
+        written("", Rows.text("KLMNabcdefgh") + " " + Rows.text("defghXabcdef"), 64, 12, 2,
                 plainFrame(itself(Rows.text("KLMNabcdefgh")) + packed("01 05 00 70" + Rows.text("Xabcdef"))));
     }
 
@@ -143,28 +108,28 @@ public final class FramesTest {
         String alone = head(96, 4, "");
         String second = packed("07 10 00 50" + Rows.text("lmnop"));
         for (int way = 0; way < 4; way++) {
-            written(Rows.with(twice), 96, 16, way, alone + itself(LETTERS) + itself(LETTERS) + END);
-            written(Rows.with(LETTERS, twice), 96, 16, way, alone + second + second + END);
+            written("", twice, 96, 16, way, alone + itself(LETTERS) + itself(LETTERS) + END);
+            written(LETTERS, twice, 96, 16, way, alone + second + second + END);
             // Each row goes on where HISTORY ends, and HISTORY's last places run on into each row.
             String pairs = packed("07 02 00 50" + Rows.text("babab"));
-            written(Rows.with(Rows.text("ab"), Rows.times(24, "61 62")), 96, 16, way,
+            written(Rows.text("ab"), Rows.times(24, "61 62"), 96, 16, way,
                     alone + pairs + pairs + pairs + END);
         }
         // HISTORY runs on into the first row, not for the second one.
         String first = Rows.text("cdefghijKLMN");
         String other = Rows.text("abcdefghMNOP");
-        written(Rows.with(Rows.text("ab"), first + " " + other), 96, 12, 2,
+        written(Rows.text("ab"), first + " " + other, 96, 12, 2,
                 alone + itself(first) + itself(other) + END);
     }
 
     private void sums() {
         String row = Rows.times(40, "61");
         String block = packed("1f 61 01 00 0f 50" + Rows.times(5, "61"));
-        written(Rows.with(row), 80, 8000, 0, head(80, 4, "") + summed(block) + END);
-        written(Rows.with(row), 68, 8000, 0, head(68, 4, "") + block + END + sum(row));
-        written(Rows.with(row + " " + ABC), 84, 40, 0,
+        written("", row, 80, 8000, 0, head(80, 4, "") + summed(block) + END);
+        written("", row, 68, 8000, 0, head(68, 4, "") + block + END + sum(row));
+        written("", row + " " + ABC, 84, 40, 0,
                 head(84, 4, "") + summed(block) + summed(itself(ABC)) + END + sum(row + " " + ABC));
-        written(new TokenFrames(), 124, 8000, 0, head(124, 4, END + END) + END + sum(""));
+        written("", "", 124, 8000, 0, head(124, 4, END + END) + END + sum(""));
     }
 
     private void frameRefused() {
@@ -217,59 +182,39 @@ public final class FramesTest {
 
     // --- promise 10
 
-    private void read(TokenFrames x, String inHex, int most, String want) {
-        Rows.load(x, inHex);
-        checks.due("unframe(" + most + ") of " + inHex, x.unframe(most), Rows.count(want));
-        checks.due("place() of unframe of " + inHex, x.place(), Rows.count(inHex));
-        checks.same("OUT of unframe of " + inHex, Rows.out(x), Rows.shown(want));
-    }
-
-    private void fault(TokenFrames x, String inHex, int most, int number, int place) {
-        Rows.load(x, "20 07 08");
-        x.unblock(8000);
-        Rows.load(x, inHex);
-        checks.due("unframe(" + most + ") of " + inHex, x.unframe(most), -number);
-        checks.due("place() of unframe(" + most + ") of " + inHex, x.place(), place);
-        checks.same("OUT after unframe of " + inHex, Rows.out(x), "07 08");
-    }
-
-    private void fault(String inHex, int most, int number, int place) {
-        fault(new TokenFrames(), inHex, most, number, place);
-    }
-
     private void reading() {
-        read(new TokenFrames(), "", 0, "");
-        read(new TokenFrames(), plainFrame(""), 0, "");
-        read(new TokenFrames(), plainFrame(itself("")), 0, "");
-        read(new TokenFrames(), plainFrame(itself("") + itself(ABC) + itself("")), 3, ABC);
-        read(new TokenFrames(), plainFrame(packed("00")), 0, "");
-        read(new TokenFrames(), plainFrame(packed("12 41 01 00 00") + itself("42")), 8, Rows.times(7, "41") + " 42");
-        read(new TokenFrames(), SPARE, 0, "");
-        read(new TokenFrames(), "50 2a 4d 18 00 00 00 00", 0, "");
-        read(new TokenFrames(), SPARE + plainFrame(itself("41")) + SPARE + SPARE + plainFrame(itself("42")), 2,
+        read("", 0, "");
+        read(plainFrame(""), 0, "");
+        read(plainFrame(itself("")), 0, "");
+        read(plainFrame(itself("") + itself(ABC) + itself("")), 3, ABC);
+        read(plainFrame(packed("00")), 0, "");
+        read(plainFrame(packed("12 41 01 00 00") + itself("42")), 8, Rows.times(7, "41") + " 42");
+        read(SPARE, 0, "");
+        read("50 2a 4d 18 00 00 00 00", 0, "");
+        read(SPARE + plainFrame(itself("41")) + SPARE + SPARE + plainFrame(itself("42")), 2,
                 "41 42");
         String all = Rows.number(4) + END + Rows.number(-1);
         for (int k = 4; k < 8; k++) {
-            read(new TokenFrames(), head(125, k, all) + summed(itself(ABC)) + summed(packed("10 64")) + END
+            read(head(125, k, all) + summed(itself(ABC)) + summed(packed("10 64")) + END
                     + sum(ABC + "64"), 4, ABC + " 64");
         }
-        read(new TokenFrames(), head(80, 4, "") + summed(itself("")) + END, 0, "");
-        read(new TokenFrames(), plainFrame(itself(ABC)) + head(68, 5, "") + itself("64") + END + sum("64"), 4,
+        read(head(80, 4, "") + summed(itself("")) + END, 0, "");
+        read(plainFrame(itself(ABC)) + head(68, 5, "") + itself("64") + END + sum("64"), 4,
                 ABC + " 64");
     }
 
     private void readingBehindContent() {
         String back = packed("00 03 00 00");
-        read(new TokenFrames(), plainFrame(itself(ABC) + back), 8000, Rows.text("abcabca"));
+        read(plainFrame(itself(ABC) + back), 8000, Rows.text("abcabca"));
         fault(head(96, 4, "") + itself(ABC) + back + END, 8000, 2, 7 + 7 + 4 + 1);
-        read(Rows.with("01 02 03", ""), head(96, 4, "") + itself(ABC) + back + END, 8000, ABC + " 01 02 03 01");
-        read(Rows.with("01 02 03", ""), plainFrame(itself("61") + back), 8000, "61 02 03 61 02");
-        read(Rows.with("01 02 03", ""), plainFrame(itself("61") + packed("00 04 00 00")), 8000, "61 01 02 03 61");
-        fault(Rows.with("01 02 03", ""), plainFrame(itself("61") + packed("00 05 00 00")), 8000, 2, 17);
-        fault(Rows.with("01 02 03", ""), head(96, 4, "") + itself("61") + packed("00 04 00 00") + END, 8000, 2, 17);
+        read("01 02 03", head(96, 4, "") + itself(ABC) + back + END, 8000, ABC + " 01 02 03 01");
+        read("01 02 03", plainFrame(itself("61") + back), 8000, "61 02 03 61 02");
+        read("01 02 03", plainFrame(itself("61") + packed("00 04 00 00")), 8000, "61 01 02 03 61");
+        fault("01 02 03", plainFrame(itself("61") + packed("00 05 00 00")), 8000, 2, 17);
+        fault("01 02 03", head(96, 4, "") + itself("61") + packed("00 04 00 00") + END, 8000, 2, 17);
         // A frame's content does not reach into that of the frame ahead of it.
         fault(plainFrame(itself(ABC)) + plainFrame(back), 8000, 2, 18 + 7 + 4 + 1);
-        read(Rows.with("01 02 03", ""), plainFrame(itself(ABC)) + plainFrame(back), 8000, ABC + " 01 02 03 01");
+        read("01 02 03", plainFrame(itself(ABC)) + plainFrame(back), 8000, ABC + " 01 02 03 01");
     }
 
     private void faultOne() {
@@ -292,13 +237,13 @@ public final class FramesTest {
     private void faultOneOfEachCut() {
         String whole = SPARE + head(125, 4, Rows.number(8) + END + Rows.number(99)) + summed(itself(ABC))
                 + summed(packed("10 64 01 00 00")) + END + sum("61 62 63 64 64 64 64 64");
-        read(new TokenFrames(), whole, 8, "61 62 63 64 64 64 64 64");
+        read(whole, 8, "61 62 63 64 64 64 64 64");
         for (int n = 1; n < Rows.count(whole); n++) {
             if (n != 11) {
                 fault(Rows.first(n, whole), 8000, 1, n);
             }
         }
-        read(new TokenFrames(), Rows.first(11, whole), 8000, "");
+        read(Rows.first(11, whole), 8000, "");
     }
 
     private void faultFour() {
@@ -332,7 +277,7 @@ public final class FramesTest {
         fault(MARK + "40 40 c1", 8000, 6, 6);
         fault(MARK + "40 40 00 00 00 00 00", 8000, 6, 6);
         String sized = head(73, 4, Rows.number(0) + END + Rows.number(5)) + END;
-        read(new TokenFrames(), sized, 8000, "");
+        read(sized, 8000, "");
         for (int k = 6; k < 18; k++) {
             fault(Rows.changed(sized, k, 77), 8000, 6, 18);
         }
@@ -385,7 +330,7 @@ public final class FramesTest {
         fault(plainFrame(itself(ABC)) + plainFrame(itself(ABC)), 4, 3, 18 + 11 + 1);
         fault(head(96, 4, "") + itself(ABC) + packed("10 41 01 00 00") + END, 7, 3, 14 + 4 + 2);
         String many = "1f 41 01 00" + Rows.times(31, "ff");
-        read(new TokenFrames(), plainFrame(packed(many + "4b 00")), 8000, Rows.times(8000, "41"));
+        read(plainFrame(packed(many + "4b 00")), 8000, Rows.times(8000, "41"));
         fault(plainFrame(packed(many + "4c 00")), 8000, 3, 13);
         fault(plainFrame(packed(many + "4b 00") + itself("41")), 8000, 3, 11 + 37 + 4);
         fault(plainFrame(packed(many + "4b 00")) + plainFrame(packed("10 41")), 8000, 3, 11 + 37 + 4 + 7 + 4 + 1);
@@ -407,7 +352,7 @@ public final class FramesTest {
         }
         // SIZE and sum are those of the frame's own content, not of all contents.
         String one = head(76, 4, Rows.number(1) + END) + itself("61") + END + sum("61");
-        read(new TokenFrames(), one + one, 8000, "61 61");
+        read(one + one, 8000, "61 61");
     }
 
     private void theFirstFault() {

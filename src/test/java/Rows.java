@@ -7,6 +7,7 @@ import java.util.Random;
  */
 final class Rows {
     private static final int MOST_SHOWN = 100;
+    private static final int LONG_RUN = 64;
 
     private Rows() {
     }
@@ -24,14 +25,29 @@ final class Rows {
         return x;
     }
 
+    /** Appends a row; a long run of one byte is appended by again. */
     static void put(TokenFrames x, String hex) {
         String digits = hex.replace(" ", "");
-        for (int at = 0; at < digits.length(); at += 16) {
-            String part = digits.substring(at, Math.min(digits.length(), at + 16));
-            if (!x.write(Long.parseUnsignedLong(part, 16), part.length() / 2)) {
+        int at = 0;
+        while (at < digits.length()) {
+            int run = runAt(digits, at);
+            int n = run >= LONG_RUN ? run : Math.min(8, digits.length() / 2 - at / 2);
+            String part = digits.substring(at, at + 2 * (run >= LONG_RUN ? 1 : n));
+            boolean fits = x.write(Long.parseUnsignedLong(part, 16), part.length() / 2);
+            if (!fits || run >= LONG_RUN && !x.again(1, n - 1)) {
                 throw new IllegalArgumentException("IN has no room for " + hex);
             }
+            at += 2 * n;
         }
+    }
+
+    /** How often the byte that stands there comes one behind the other. */
+    private static int runAt(String digits, int at) {
+        int end = at;
+        while (end < digits.length() && digits.startsWith(digits.substring(at, at + 2), end)) {
+            end += 2;
+        }
+        return (end - at) / 2;
     }
 
     /** IN becomes the row. */
