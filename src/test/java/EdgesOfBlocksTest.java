@@ -330,6 +330,7 @@ public final class EdgesOfBlocksTest extends BlockCases {
     @Says("Terms: WAY 0: of all the nearest.")
     void termsWay0TheNearestHoweverShort() {
         written(text("abcdefg1abcd2"), text("abcdefg") + LETTERS, 0, "00 05 00 f0 02" + text("efg") + LETTERS);
+        written(text("abcdefghij1abcd2"), text("abcdefghij") + LETTERS, 0, "00 05 00 02 10 00 e0" + LETTERS);
         written(text("abcd1abcd2abcd3"), text("abcdXY") + LETTERS, 0, "00 05 00 f0 01" + text("XY") + LETTERS);
         // The nearest with 4 bytes, not one that is nearer with 3.
         written(text("abcde1abc2"), text("abcde") + LETTERS, 0, "01 0a 00 e0" + LETTERS);
@@ -376,7 +377,10 @@ public final class EdgesOfBlocksTest extends BlockCases {
         written(text("abcd1bcde2"), text("abcde") + LETTERS, 3, "00 0a 00 f0 00 65" + LETTERS);
         written(text("abcde1bcde2"), text("abcde") + LETTERS, 3, "01 0b 00 e0" + LETTERS);
         written(text("abcd1"), text("abcd") + LETTERS, 3, "00 05 00 e0" + LETTERS);
+        // The longest at p + 1 may begin at p itself.
+        written(text("aaaa1"), run(20), 3, "1a 61 01 00 50" + run(5));
         // Way 2 takes what is there.
+        written(text("aaaa1"), run(20), 2, "00 05 00 07 01 00 50" + run(5));
         written(text("abcd1bcdef2"), text("abcdef") + LETTERS, 2, "00 0b 00 f0 01" + text("ef") + LETTERS);
         // It is asked again at each place, and only of the next one.
         written(text("abcd1bcdef2cdefgh3"), text("abcdefgh") + LETTERS, 3, "22 61 62 09 00 e0" + LETTERS);

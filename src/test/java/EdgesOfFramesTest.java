@@ -218,6 +218,28 @@ public final class EdgesOfFramesTest extends FrameCases {
         read(alone + itself(ABC) + packed("10 64 01 00 00") + END, 8000, ABC + Rows.times(5, "64"));
     }
 
+    @Says("Terms: but with ALONE HISTORY alone")
+    void termsFrameNoOtherFlagMakesABlockAlone() {
+        for (int flags = 64; flags < 128; flags++) {
+            if (mayBeFlags(flags)) {
+                boolean sums = (flags & 16) != 0;
+                boolean alone = (flags & 32) != 0;
+                String first = itself(LETTERS);
+                String second = packed("07 10 00 50" + text("lmnop"));
+                String head = head(flags, 32, 7);
+                String tail = END + ((flags & 4) != 0 ? sum(LETTERS + LETTERS) : "");
+                String both = head + (sums ? summed(first) + summed(second) : first + second) + tail;
+                String firstTwice = head + (sums ? summed(first) + summed(first) : first + first) + tail;
+                writtenByAll("", LETTERS + LETTERS, flags, 16, alone ? firstTwice : both);
+                if (alone) {
+                    fault(both, 8000, 2, Rows.count(head) + 4 + 16 + (sums ? 4 : 0) + 4 + 1);
+                } else {
+                    read(both, 32, LETTERS + LETTERS);
+                }
+            }
+        }
+    }
+
     @Says("Terms: with flag 16 their NARROW SUM, 4 bytes")
     void termsFault8EachByteOfABlocksSum() {
         for (String block : new String[] {itself(ABC), packed("30" + ABC), itself("")}) {
@@ -399,7 +421,7 @@ public final class EdgesOfFramesTest extends FrameCases {
         fault(plainFrame(itself(ABC)) + SPARE + "04 22 4d 1c", 8000, 4, 29);
     }
 
-    @Says("Terms: 5 FLAGS or the byte behind them are none that may be .. (of 5: the wrong one of both bytes)")
+    @Says("Terms: 5 FLAGS or the byte behind them are none that may be .. (of 5: the wrong one of both bytes")
     void termsFault5TheWrongOneOfBothBytes() {
         fault(headOf("00 40") + END, 8000, 5, 4);
         fault(headOf("40 00") + END, 8000, 5, 5);
@@ -515,7 +537,7 @@ public final class EdgesOfFramesTest extends FrameCases {
         fault("c1 c2 c3", head(68, 4, "") + itself(ABC) + END + sum("c1 c2 c3" + ABC), 8000, 10, 18);
     }
 
-    @Says("Terms: 11 SIZE is another one than the content's (after that) .. (of 11: where SIZE stands)")
+    @Says("Terms: 11 SIZE is another one than the content's (after that) .. of 11: where SIZE stands")
     void termsFault11EachByteOfSize() {
         read(head(72, 3, 0) + itself(ABC) + END, 8000, ABC);
         for (long size : new long[] {2, 4, 0, -1, Long.MIN_VALUE, Long.MAX_VALUE}) {
@@ -684,6 +706,26 @@ public final class EdgesOfFramesTest extends FrameCases {
                 plainFrame(itself(text("1234567890AB")) + packed("03 14 00 50" + text("hCDEF"))));
         writtenByAll(history, in, 96, 12,
                 head(96, 4, "") + itself(text("1234567890AB")) + packed("03 08 00 50" + text("hCDEF")) + END);
+    }
+
+    @Says("Promise 9: each as a block that is WRITTEN in a way behind the HISTORY that it has in reading")
+    void promise9HistorysLastBytesRunOnIntoEachRowThatIsAlone() {
+        // The second row's match begins 3, 2 and 1 bytes ahead of HISTORY's end, at it, and at HISTORY's first
+        // byte. The first row, with which HISTORY's end goes on otherwise, is not there for it.
+        String[] matches = {"abcd+-", "bcd+-*", "cd+-*/", "d+-*/d", "abcz12"};
+        int[] distances = {8, 7, 6, 5, 14};
+        String first = text("zABCDEFGHIJKLMNOPQRS");
+        for (int i = 0; i < matches.length; i++) {
+            String second = text("d+-*/" + matches[i] + "TUVWXYZ!?");
+            String block = "52" + text("d+-*/") + pair(distances[i]) + "90" + text("TUVWXYZ!?");
+            String want = head(96, 4, "") + itself(first) + packed(block) + END;
+            writtenByAll(text("abcz12abc"), first + second, 96, 20, want);
+            // HISTORY may be no longer than the match needs it to be.
+            if (distances[i] <= 8) {
+                writtenByAll(Rows.text("abc".substring(8 - distances[i])), first + second, 96, 20, want);
+                writtenByAll(text("abc"), first + second, 96, 20, want);
+            }
+        }
     }
 
     @Says("Promise 9: each as a block that is WRITTEN in a way behind the HISTORY that it has in reading")
