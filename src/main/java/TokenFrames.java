@@ -349,7 +349,7 @@ public final class TokenFrames {
         void cutTo(int n) {
             int whole = Math.max(0, n - 3);
             for (int q = Math.min(chained, earlier.length) - 1; q >= whole; q--) {
-                latest[slot(data.word(q))] = earlier[q];
+                setLatest(slot(data.word(q)), earlier[q]);
             }
             chained = Math.min(chained, whole);
             data.cutTo(n);
@@ -375,7 +375,7 @@ public final class TokenFrames {
             source = -1;
             length = 0;
             int enough = enough(end - p, way);
-            int q = latest[slot(data.word(p))];
+            int q = latest(slot(data.word(p)));
             for (int i = 0; i < p && q >= 0 && q < earlier.length; i++) {
                 // A place that differs here can't have a longer match than the one that is held.
                 if (data.get(q + length) == data.get(p + length)) {
@@ -407,8 +407,18 @@ public final class TokenFrames {
         private void chainBelow(int p) {
             for (; chained < p && chained < earlier.length; chained++) {
                 int slot = slot(data.word(chained));
-                earlier[chained] = latest[slot];
-                latest[slot] = chained;
+                earlier[chained] = latest(slot);
+                setLatest(slot, chained);
+            }
+        }
+
+        private int latest(int slot) {
+            return slot >= 0 && slot < latest.length ? latest[slot] : -1;
+        }
+
+        private void setLatest(int slot, int place) {
+            if (slot >= 0 && slot < latest.length) {
+                latest[slot] = place;
             }
         }
 
